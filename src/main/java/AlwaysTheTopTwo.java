@@ -1,5 +1,3 @@
-import java.util.Arrays;
-
 /** A pile of linen, week by week: what ../shared/DOC.md promises, call by call. */
 public final class AlwaysTheTopTwo {
     public static final int NONE = -1, BAD = -2, STATE = -3, FULL = -4;
@@ -197,8 +195,7 @@ public final class AlwaysTheTopTwo {
     }
 
     public int next() {
-        int place = now.placeToTake(now.rule[TAKEN]);
-        return now.pile.isPlace(place) ? now.pile.at(place) : NONE;
+        return now.pile.at(now.placeToTake(now.rule[TAKEN]));
     }
 
     public int pileUp(int how) {
@@ -210,7 +207,7 @@ public final class AlwaysTheTopTwo {
         } else {
             now.sortsPile(how);
         }
-        return now.pile.size > 0 ? now.pile.at(0) : NONE;
+        return now.pile.at(0);
     }
 
     // ---- weeks
@@ -589,10 +586,11 @@ public final class AlwaysTheTopTwo {
         }
         int came = 0;
         for (int k = 0; k < n; k++) {
-            if (at < 0 || !sheets.isPlace(s, at + 2 * k) || !sheets.isPlace(s, at + 2 * k + 1)) {
+            int first = at + 2 * k;
+            if (!sheets.isPlace(s, first) || !sheets.isPlace(s, first + 1)) {
                 return OUTSIDE;
             }
-            if (buy(sheets.reads(s, at + 2 * k), sheets.reads(s, at + 2 * k + 1)) >= 0) {
+            if (buy(sheets.reads(s, first), sheets.reads(s, first + 1)) >= 0) {
                 came++;
             }
         }
@@ -695,9 +693,8 @@ public final class AlwaysTheTopTwo {
     }
 
     private static int commonDivisor(int a, int b) {
-        int rest;
         for (int k = 0; k < 64 && b != 0; k++) {
-            rest = a % b;
+            int rest = a % b;
             a = b;
             b = rest;
         }
@@ -727,12 +724,9 @@ public final class AlwaysTheTopTwo {
             }
         }
 
+        /** All else of it is 0: behind the last LINEN the row is all 0, for back() copies that, too. */
         int adds(int kind, int more, int worn) {
             int i = many;
-            // A number can have been another LINEN's, from before back().
-            for (int what = 0; what < FACTS; what++) {
-                notes(i, what, 0);
-            }
             notes(i, KIND, kind);
             notes(i, MORE, more);
             notes(i, WORN, worn);
@@ -820,6 +814,7 @@ public final class AlwaysTheTopTwo {
             return place >= 0 && place < size && place < LINEN_ROOM;
         }
 
+        /** NONE: no such place. */
         int at(int place) {
             return place >= 0 && place < size && place < LINEN_ROOM ? lying[place] : NONE;
         }
@@ -842,6 +837,7 @@ public final class AlwaysTheTopTwo {
             size++;
         }
 
+        /** NONE: no such place, and nothing is removed. */
         int removesAt(int place) {
             if (place < 0 || place >= size || place >= LINEN_ROOM) {
                 return NONE;
@@ -1368,7 +1364,9 @@ public final class AlwaysTheTopTwo {
             if (isSheet(s) && newSize >= 0 && newSize <= CELLS) {
                 sort[s] = newSort;
                 size[s] = newSize;
-                Arrays.fill(numbers, s * CELLS, (s + 1) * CELLS, 0);
+                for (int i = 0; i < CELLS; i++) {
+                    numbers[s * CELLS + i] = 0;
+                }
             }
         }
 

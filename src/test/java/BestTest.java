@@ -31,11 +31,17 @@ final class BestTest {
         for (int goal : new int[] {-1, 2, MIN, MAX}) {
             Tally.due("19: goal " + goal, x.rules(1, goal), -2);
         }
-        // 0 goes to CLOTHS in week 0 unless it is taken; 1 is taken until it is worn out in week 1.
-        AlwaysTheTopTwo y = Made.ruled(Made.of(0, 0, 0, 380), 1, 0, 0, 0);
+        // What lies a fifth week goes to CLOTHS, 0 if it lies once: by 11 only 0 is taken, and 1 and 2 go in week 4;
+        // by 10, from below and on the top, 0 goes in week 1, and 1 and 2 are taken in turn.
+        AlwaysTheTopTwo y = Made.byLaw(Made.of(0, 0, 0, 0, 0, 0), "wears 10;yellows 1+99*(lain=4);costs 0;");
+        Made.ruled(y, 1, 0, 0, 0);
         y.put(0, 1, 98);
-        // By 11 they go in week 39 and later, by all others one in week 0 and one in week 1.
-        Tally.due("19: more LEFT", y.rules(30, 0), 11);
+        Tally.due("19: most LEFT ahead of FIRST", y.rules(10, 0), 10);
+        // What lies a third week goes to CLOTHS, so 1, which lies in the middle, must be taken at once.
+        AlwaysTheTopTwo v = Made.byLaw(Made.of(0, 0, 0, 0, 0, 0), "wears 10;yellows 99*(lain=2);costs 0;");
+        Made.ruled(v, 1, 0, 0, 0);
+        v.put(1, 2, 2);
+        Tally.due("19: that which has LAIN longest", v.rules(9, 0), 30);
         AlwaysTheTopTwo z = Made.ruled(Made.of(0, 390, 0, 0), 1, 0, 0, 0);
         // One week: the lowest goes to CLOTHS at once; of those by which none goes the first.
         Tally.due("19: of like ones the first", z.rules(1, 0), 0);
@@ -60,6 +66,9 @@ final class BestTest {
         x.turn(1);
         x.put(1, 0, 390);
         Tally.due("20: TURNED once", x.which(5), -1);
+        AlwaysTheTopTwo w = Made.of(0, 0);
+        w.run(200, 0);
+        Tally.due("20: none is needed", w.which(5), -1);
         AlwaysTheTopTwo y = Made.ruled(Made.of(0, 390, 0, 390), 2, 0, 0, 0);
         Tally.due("20: of like ones the first, though it lies below", y.which(5), 0);
         AlwaysTheTopTwo z = Made.ruled(Made.of(0, 380, 0, 380), 2, 3, 0, 0);
@@ -169,6 +178,12 @@ final class BestTest {
         Tally.due("24: none wanted", Made.ruled(new AlwaysTheTopTwo(), 0, 0, 0, 0).laundry(10), 3);
         Tally.due("24: no weeks", new AlwaysTheTopTwo().laundry(0), 3);
         Tally.due("24: no LINEN", new AlwaysTheTopTwo().laundry(1), -1);
+        // 1 lasts for three washes, and what lies goes to CLOTHS. When 0 comes back in the third week, it lies above 1
+        // if 1 was laid the week ahead, and is taken; by WASH 1 both come back then, by numbers, and 1 is.
+        AlwaysTheTopTwo y = Made.byLaw(Made.ruled(Made.of(0, 0), 1, 3, 0, 0), "wears 10;yellows 99;costs 0;");
+        y.live();
+        y.buy(0, 370);
+        Tally.due("24: without a wash", y.laundry(5), 0);
         AlwaysTheTopTwo x = Made.ruled(Made.of(three), 1, 2, 0, 0);
         x.laundry(10);
         Tally.due("24: WASH stays", x.count(3), 2);

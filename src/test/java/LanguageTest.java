@@ -22,8 +22,8 @@ final class LanguageTest {
         none(bare, "\\b(throw|throws|try|catch|finally|synchronized|assert|volatile|transient|native|float|double|var)\\b");
         none(bare, "->|::|\\.class\\b|\\bthis\\s*\\)|\\?\\s*extends|@");
         none(bare, "\\b(equals|hashCode|toString|Exact|Object|Random|Thread|Runtime|File|Scanner|Stream)\\b");
-        none(bare, "\\bpackage\\b|\\bprotected\\b|import (?!java\\.util\\.Arrays;)");
-        none(bare, "System\\.(?!arraycopy\\b)|Arrays\\.(?!fill\\b)|Math\\.(?!max\\b|min\\b)");
+        none(bare, "\\b(package|protected|import)\\b");
+        none(bare, "System\\.(?!arraycopy\\b)|Math\\.(?!max\\b|min\\b)");
         none(bare, "\\bstatic (?!final\\b)[^(;{]*[;=]");
         none(bare, "while\\s*\\(|for\\s*\\(\\s*;|do\\s*\\{");
         none(bare, "\"\"\\s*\\+|\\+\\s*\"\"");

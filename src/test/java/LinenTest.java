@@ -129,6 +129,8 @@ final class LinenTest {
             Tally.due("10: far off", x.put(1, what, MIN), -7);
             Tally.due("10: then", x.put(1, what, 7), most[what]);
             Tally.due("10: it became", x.told(1, 2 + what), 7);
+            Tally.due("10: 0", x.put(1, what, 0), 7);
+            Tally.due("10: it became 0", x.told(1, 2 + what), 0);
             Tally.due("10: not the other one", x.told(0, 2 + what), 0);
             for (int i : new int[] {-1, 2, MIN, MAX}) {
                 Tally.due("10: LINEN " + i, x.put(i, what, 0), -5);
@@ -213,6 +215,7 @@ final class LinenTest {
         }
         for (int how = 0; how < 4; how++) {
             Tally.due("14: none lies", new AlwaysTheTopTwo().pileUp(how), -1);
+            Tally.due("14: one lies", Made.of(0, 0).pileUp(how), 0);
         }
         z.set(0, 3);
         z.live();
@@ -244,6 +247,12 @@ final class LinenTest {
             z.live();
         }
         Tally.due("15: as far as an object is used", z.count(6), 500);
+        // What an object answers behind its 512th call is free; THE WEEK ends all the same.
+        for (int k = 500; k < 999; k++) {
+            z.live();
+        }
+        Tally.due("15: FULL", z.live(), -4);
+        Tally.due("15: THE LAST WEEK", z.count(6), 999);
     }
 
     /** What comes ahead of what in A WEEK. */

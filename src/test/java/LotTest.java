@@ -40,6 +40,7 @@ final class LotTest {
         for (int oddsWhat : new int[] {-1, -10, 4, 9, 1004, 1010, 1013, MIN, MAX}) {
             Tally.due("32: oddsWhat " + oddsWhat, x.drawn(0, 1, oddsWhat), -2);
         }
+        Tally.due("32: oddsWhat 0", x.drawn(0, 1, 0), 2);
         Tally.due("32: always by 100", x.drawn(0, 1, 1002), 1);
         Tally.due("32: the rule stays", x.count(4), 1);
         Tally.due("32: it changes nothing", x.told(1, 2) + x.count(6), 0);
@@ -77,6 +78,8 @@ final class LotTest {
         due(x, 0, 685, 0, 1);
         due(x, 0, 699, 0, 1);
         due(x, 0, 600, 1, 1);
+        due(x, 0, 100, 1, 1);
+        due(x, 0, 199, 0, 1);
         due(x, 0, 3000, 1, 1);
         due(x, 0, 586, 0, 1);
         due(x, 0, 543, 3, 5);

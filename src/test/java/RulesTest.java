@@ -156,9 +156,15 @@ final class RulesTest {
         fault("wears ^\t1;");
         fault("wears ^\r1;");
         fault("wears ^wornx;");
+        fault("wears ^wornz;");
+        fault("wears ^corn;");
+        fault("wears 1;yellows 1;costs 1;^\0");
+        fault("wears ^\0 1;");
+        fault("wears 1 ^\u00ff;");
         fault("wears ^wor;");
         fault("^wearsworn;");
         fault("^wear 1;");
+        fault("^bears 1;");
         fault("wears ^wears;");
         fault("wears ^12345;");
         fault("wears ^00001;");
