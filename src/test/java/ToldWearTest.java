@@ -54,7 +54,7 @@ final class ToldWearTest {
             }
         }
         Tally.due("27: n ahead of LINEN", x.kinds(1, -1, 99), -7);
-        for (int sheetSort : new int[] {20, 21, 29, 80, 1000, MAX, -10, MIN}) {
+        for (int sheetSort : new int[] {20, 21, 29, 80, 1000, MAX, -1, -2, -9, -10, MIN}) {
             Tally.due("27: LINEN of " + sheetSort, x.kinds(1, 0, sheetSort), -5);
         }
         for (int sort = 2; sort < 10; sort++) {
