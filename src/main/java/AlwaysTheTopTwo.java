@@ -647,7 +647,9 @@ public final class AlwaysTheTopTwo {
 
     private void thinksWith(int what, int v, int n) {
         thought.beginsAs(now);
-        thought.rule[what] = v;
+        if (what >= 0 && what < RULES) {
+            thought.rule[what] = v;
+        }
         thought.livesWeeks(n);
     }
 
@@ -839,7 +841,7 @@ public final class AlwaysTheTopTwo {
 
         /** NONE: no such place, and nothing is removed. */
         int removesAt(int place) {
-            if (place < 0 || place >= size || place >= LINEN_ROOM) {
+            if (place < 0 || place >= size || size > LINEN_ROOM) {
                 return NONE;
             }
             int i = lying[place];
@@ -1075,14 +1077,14 @@ public final class AlwaysTheTopTwo {
         }
 
         void adds(int step) {
-            if (many < TEXT_ROOM && size < TAPE_ROOM) {
+            if (many >= 0 && many < TEXT_ROOM && size >= 0 && size < TAPE_ROOM) {
                 code[many * TAPE_ROOM + size] = step;
                 size++;
             }
         }
 
         void endsPart(int part) {
-            if (many < TEXT_ROOM && part >= 0 && part < PARTS) {
+            if (many >= 0 && many < TEXT_ROOM && part >= 0 && part < PARTS) {
                 ends[many * PARTS + part] = size;
             }
         }
@@ -1109,8 +1111,9 @@ public final class AlwaysTheTopTwo {
                 return 0;
             }
             int top = 0;
+            int begin = part == 0 ? 0 : Math.max(ends[law * PARTS + part - 1], 0);
             int end = Math.min(ends[law * PARTS + part], TAPE_ROOM);
-            for (int k = part == 0 ? 0 : ends[law * PARTS + part - 1]; k < end; k++) {
+            for (int k = begin; k < end; k++) {
                 int step = code[law * TAPE_ROOM + k];
                 int name = -step - FIRST_NAME;
                 if (step >= 0 || (name >= 0 && name < NAMES)) {
@@ -1154,7 +1157,7 @@ public final class AlwaysTheTopTwo {
         private int number;
 
         void adds(int b) {
-            if (size < TAPE_ROOM) {
+            if (size >= 0 && size < TAPE_ROOM) {
                 bytes[size] = b;
                 size++;
             }
@@ -1375,12 +1378,12 @@ public final class AlwaysTheTopTwo {
         }
 
         boolean isPlace(int s, int i) {
-            return isSheet(s) && i >= 0 && i < size[s];
+            return isSheet(s) && i >= 0 && i < size[s] && i < CELLS;
         }
 
         /** The n numbers from i on; by subtraction, for i and n together can be more than an int holds. */
         boolean holds(int s, int i, int n) {
-            return isSheet(s) && i >= 0 && n >= 0 && n <= size[s] && i <= size[s] - n;
+            return isSheet(s) && size[s] <= CELLS && i >= 0 && n >= 0 && n <= size[s] && i <= size[s] - n;
         }
 
         int reads(int s, int i) {

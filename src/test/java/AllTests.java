@@ -1,4 +1,4 @@
-/** Runs every test of the project; the argument is the program's source; exit code 1 if an answer was not as due. */
+/** Runs every test; the arguments: the program's source, and README.md; exit code 1 if an answer was not as due. */
 public final class AllTests {
     private static final long LONGEST_MILLIS = 600_000;
 
@@ -9,6 +9,7 @@ public final class AllTests {
         endsAtLast();
         FaceTest.tests();
         LanguageTest.tests(args[0]);
+        ReadmeTest.tests(args[1]);
         RulesTest.tests();
         LinenTest.tests();
         WeeksTest.tests();
